@@ -20,6 +20,11 @@ public final class EscapadeHouse {
 
     private static final int NONE = -1;
 
+    // More than double the states, so that a search among the slots is short.
+    private static final int SLOT_BITS = 12;
+    private static final int SLOTS = 1 << SLOT_BITS;
+    private static final long SPREAD = 0x9E3779B97F4A7C15L;
+
     private static final int LOOK = 10;
     private static final int FIRST_PROP = 20;
     private static final int FIRST_LOCK = 40;
@@ -55,7 +60,7 @@ public final class EscapadeHouse {
 
     public int addPlace() throws IllegalStateException, UnsupportedOperationException {
         refuseAfterActs();
-        refuseBeyond(MOST_PLACES, room.placeCount);
+        refuseIfFull(room.placeCount, MOST_PLACES);
         room.placeCount++;
         forgetProofs();
         return room.placeCount - 1;
@@ -80,7 +85,7 @@ public final class EscapadeHouse {
             throw new IllegalArgumentException("both places are the same");
         }
         refuseAfterActs();
-        refuseBeyond(MOST_DOORS, room.doors.size());
+        refuseIfFull(room.doors.size(), MOST_DOORS);
         room.doors.add(new Door(from, to, lock, isSlamming));
         forgetProofs();
         return room.doors.size() - 1;
@@ -95,7 +100,7 @@ public final class EscapadeHouse {
             refuseUnknownFact(fact);
         }
         refuseAfterActs();
-        refuseBeyond(MOST_PROPS, room.props.size());
+        refuseIfFull(room.props.size(), MOST_PROPS);
         room.props.add(new Prop(place, lock, fact));
         forgetProofs();
         return room.props.size() - 1;
@@ -129,7 +134,7 @@ public final class EscapadeHouse {
             throws IndexOutOfBoundsException, IllegalStateException, UnsupportedOperationException {
         refuseUnknownPlace(place);
         refuseAfterActs();
-        refuseBeyond(MOST_SWITCHES, room.switches.size());
+        refuseIfFull(room.switches.size(), MOST_SWITCHES);
         room.switches.add(new Switch(place));
         forgetProofs();
         return room.switches.size() - 1;
@@ -142,7 +147,7 @@ public final class EscapadeHouse {
         }
         refuseUnknownFact(fact);
         refuseAfterActs();
-        refuseBeyond(MOST_INFERENCES, room.inferences.size());
+        refuseIfFull(room.inferences.size(), MOST_INFERENCES);
         room.inferences.add(new Inference(facts, fact));
         forgetProofs();
         return room.inferences.size();
@@ -303,9 +308,9 @@ public final class EscapadeHouse {
         }
     }
 
-    private static void refuseBeyond(int most, int count) {
+    private static void refuseIfFull(int count, int most) {
         if (count >= most) {
-            throw new UnsupportedOperationException("there are no more of these");
+            throw new UnsupportedOperationException("there are as many as can be");
         }
     }
 
@@ -350,7 +355,7 @@ public final class EscapadeHouse {
 
     private int addedLock(Lock lock) {
         refuseAfterActs();
-        refuseBeyond(MOST_LOCKS, room.locks.size());
+        refuseIfFull(room.locks.size(), MOST_LOCKS);
         room.locks.add(lock);
         forgetProofs();
         return room.locks.size() - 1;
@@ -387,6 +392,11 @@ public final class EscapadeHouse {
             throw new NoSuchElementException("the state is dead");
         }
         return way;
+    }
+
+    /** From 0 to below SLOTS, for any number. */
+    private static int firstSlotOf(long number) {
+        return (int) (number * SPREAD >>> 64 - SLOT_BITS);
     }
 
     /** The lock is NONE if the door has none. */
@@ -584,7 +594,7 @@ public final class EscapadeHouse {
 
         private int withInferences(int known) {
             int all = known;
-            // A round that finds nothing new is the last that matters, so that as many rounds as inferences are enough.
+            // Each round but one that changes nothing settles an inference more, so these rounds are enough.
             for (int round = 0; round < inferences.size(); round++) {
                 for (int i = 0; i < inferences.size(); i++) {
                     Inference inference = inferences.get(i);
@@ -643,10 +653,6 @@ public final class EscapadeHouse {
 
     /** All states that can come up, and the way that is left from each. */
     private static final class Proof {
-        // A power of two, so that a slot follows from the top bits of a product, and double the states.
-        private static final int SLOT_BITS = 12;
-        private static final int SLOTS = 1 << SLOT_BITS;
-        private static final long SPREAD = 0x9E3779B97F4A7C15L;
         private static final int TO_BITS = 11;
         private static final int TO_MASK = (1 << TO_BITS) - 1;
 
@@ -751,7 +757,7 @@ public final class EscapadeHouse {
 
         /** The slot that holds the state, or the free one where it belongs. */
         private int slotOf(long state) {
-            int slot = (int) (state * SPREAD >>> 64 - SLOT_BITS);
+            int slot = firstSlotOf(state);
             for (int tries = 0; tries < SLOTS; tries++) {
                 int index = slots[slot];
                 if (index < 0 || index >= MOST_STATES || found[index] == state) {
@@ -790,11 +796,9 @@ public final class EscapadeHouse {
     /** Looks for the end by trying all acts, without any proof. */
     private static final class Trial {
         private static final int LEFT_BITS = 3;
-        private static final int SLOT_BITS = 12;
-        private static final long SPREAD = 0x9E3779B97F4A7C15L;
 
         // What failed is remembered, or acts in another order would be tried again; a newer one takes a slot over.
-        private final long[] failed = new long[1 << SLOT_BITS];
+        private final long[] failed = new long[SLOTS];
 
         void forget() {
             Arrays.fill(failed, 0L);
@@ -812,7 +816,7 @@ public final class EscapadeHouse {
                 return false;
             }
             long mark = state << LEFT_BITS | left;
-            int slot = (int) (mark * SPREAD >>> 64 - SLOT_BITS);
+            int slot = firstSlotOf(mark);
             if (failed[slot] == mark) {
                 return false;
             }

@@ -120,7 +120,8 @@ public final class ComparisonTest {
     private void build() {
         int place = somePlace();
         switch (dice.nextInt(10)) {
-            case 0, 1, 2 -> addDoor(place, dice.nextInt(3) == 0 ? somePlace() : place + 1, someLock(), dice.nextBoolean());
+            case 0, 1 -> addDoor(place, place + 1, someLock(), dice.nextBoolean());
+            case 2 -> addDoor(place, somePlace(), someLock(), dice.nextBoolean());
             case 3, 4 -> addProp(place, someLock(), within(-1, 11));
             case 5, 6 -> addSomeLock(place);
             case 7 -> addSwitch(place);

@@ -76,7 +76,9 @@ public final class ProofTest {
 
     private static void statesAreCountedOnce() {
         EscapadeHouse house = withPlaces(2);
+        check.due("17: states() of nothing", 1, house::states);
         house.addSwitch(0);
+        check.due("17: states() by a switch", 2, house::states);
         house.addSwitch(0);
         check.due("17: states() by two switches", 4, house::states);
         house.addProp(0, -1, -1);
@@ -198,7 +200,7 @@ public final class ProofTest {
         check.due("28: isSound() in a dead state", true, house::isSound);
     }
 
-    /** Five places, 16 settings of switches, and twice a prop with five fates: in place, in hands, or in one of three locks. */
+    /** Five places, 16 settings of switches, and two props of five fates: in place, in hands, in one of three locks. */
     private static EscapadeHouse withTwoThousandStates() {
         EscapadeHouse house = withPlaces(6);
         for (int i = 0; i < 4; i++) {
