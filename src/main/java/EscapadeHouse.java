@@ -41,7 +41,7 @@ public final class EscapadeHouse {
     private final Room room;
     private final Desk desk;
     private final Trial trial;
-    private Proof proof;
+    private final Proof proof;
     private boolean isProven;
     private long state;
     private int actCount;
@@ -50,7 +50,7 @@ public final class EscapadeHouse {
         room = new Room();
         desk = new Desk();
         trial = new Trial();
-        proof = null;
+        proof = new Proof();
         isProven = false;
         state = State.BEGINNING;
         actCount = 0;
@@ -113,7 +113,7 @@ public final class EscapadeHouse {
         if (prop < 0 || prop >= MOST_PROPS) {
             throw new IllegalArgumentException("the prop is out of range");
         }
-        return addedLock(new Lock('k', place, 1 << prop, isBreaking));
+        return addedLock('k', place, 1 << prop, isBreaking);
     }
 
     public int addLock(char kind, int place, int set)
@@ -127,7 +127,7 @@ public final class EscapadeHouse {
             throw new IllegalArgumentException("the set has something else than facts or switches");
         }
         refuseUnknownPlace(place);
-        return addedLock(new Lock(kind, place, set, false));
+        return addedLock(kind, place, set, false);
     }
 
     public int addSwitch(int place)
@@ -353,10 +353,10 @@ public final class EscapadeHouse {
         }
     }
 
-    private int addedLock(Lock lock) {
+    private int addedLock(char kind, int place, int set, boolean isBreaking) {
         refuseAfterActs();
         refuseIfFull(room.locks.size(), MOST_LOCKS);
-        room.locks.add(lock);
+        room.locks.add(new Lock(kind, place, set, isBreaking));
         forgetProofs();
         return room.locks.size() - 1;
     }
@@ -366,11 +366,8 @@ public final class EscapadeHouse {
         trial.forget();
     }
 
-    /** The proof is made when it is first asked for, as its rows are large, and made anew when the room changed. */
+    /** The proof is gone through when it is first asked for, and again when the room changed. */
     private Proof triedProof() {
-        if (proof == null) {
-            proof = new Proof();
-        }
         if (!isProven) {
             proof.goThrough(room);
             isProven = true;
@@ -651,7 +648,7 @@ public final class EscapadeHouse {
         }
     }
 
-    /** All states that can come up, and the way that is left from each. */
+    /** All states that can come up, and the way that is left from each; its rows are made once and filled anew. */
     private static final class Proof {
         private static final int TO_BITS = 11;
         private static final int TO_MASK = (1 << TO_BITS) - 1;

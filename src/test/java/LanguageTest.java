@@ -17,6 +17,9 @@ public final class LanguageTest {
             "IllegalStateException", "IllegalArgumentException", "IndexOutOfBoundsException", "ArithmeticException",
             "UnsupportedOperationException", "NoSuchElementException");
 
+    /** Each is kept, and the room refuses more than a few of it. */
+    private static final Set<String> RECORDS = Set.of("Door", "Prop", "Lock", "Switch", "Inference");
+
     private static final Check check = new Check();
 
     public static void main(String[] args) throws IOException {
@@ -36,7 +39,17 @@ public final class LanguageTest {
                         + "|->|::|\\bequals\\b|\\bhashCode\\b|\\btoString\\b)", code));
         check.due("rule 9: loops without a bound", Set.of(),
                 () -> all("(while *\\(true\\)|for *\\( *;|\\bdo *\\{)", code));
+        String methods = withoutMadeInConstructors(code);
+        check.due("rule 12: rows made in a call", Set.of(), () -> all("new (\\w+ *\\[)", methods));
+        check.due("rule 12: objects made in a call", RECORDS,
+                () -> all("(?<!throw )new (\\w+) *(?:<[^>]*>)? *\\(", methods));
         check.end();
+    }
+
+    /** A field's initialiser and what the constructor sets are made once for each object. */
+    private static String withoutMadeInConstructors(String code) {
+        return code.replaceAll("(?m)^ *(?:private )?final [^\\n;]* = new [^\\n;]*;$", "")
+                .replaceAll("(?s)public EscapadeHouse\\(\\) \\{.*?\\n    \\}\\n", "");
     }
 
     private static Set<String> all(String pattern, String code) {
