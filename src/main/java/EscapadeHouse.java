@@ -287,17 +287,23 @@ public final class EscapadeHouse {
     }
 
     public boolean isSound() {
-        if (!desk.agreesWith(State.openIn(state))) {
-            return false;
-        }
+        return canComeUp() && desk.agreesWith(State.openIn(state)) && agreesWithTrial();
+    }
+
+    /** Where too many states come up to look for it, it is one of them all the same: acts alone ever make it. */
+    private boolean canComeUp() {
+        Proof tried = triedProof();
+        return tried.isTooLarge() || tried.hasState(state);
+    }
+
+    private boolean agreesWithTrial() {
         Proof tried = triedProof();
         if (tried.isTooLarge()) {
-            // Only acts from the beginning ever make the state, so it can come up even if it is not gone through.
             return true;
         }
         int way = tried.wayFrom(state);
         boolean isNear = way != NONE && way <= MOST_ACTS_TRIED;
-        return tried.hasState(state) && isNear == trial.findsEnd(room, state, MOST_ACTS_TRIED);
+        return isNear == trial.findsEnd(room, state, MOST_ACTS_TRIED);
     }
 
     // What several calls share.

@@ -21,18 +21,9 @@ public final class ProofTest {
         check.end();
     }
 
-    private static EscapadeHouse withPlaces(int places) {
-        EscapadeHouse house = new EscapadeHouse();
-        for (int i = 0; i < places; i++) {
-            house.addPlace();
-        }
-        house.setEnd(places - 1);
-        return house;
-    }
-
     /** One key that breaks, and two locks for it: the lock 0 to the end, the lock 1 to a place without anything. */
     private static EscapadeHouse withOneKeyForTwoLocks() {
-        EscapadeHouse house = withPlaces(3);
+        EscapadeHouse house = Rooms.withPlaces(3);
         house.addKeyLock(0, 0, true);
         house.addKeyLock(0, 0, true);
         house.addProp(0, -1, -1);
@@ -75,7 +66,7 @@ public final class ProofTest {
     }
 
     private static void statesAreCountedOnce() {
-        EscapadeHouse house = withPlaces(2);
+        EscapadeHouse house = Rooms.withPlaces(2);
         check.due("17: states() of nothing", 1, house::states);
         house.addSwitch(0);
         check.due("17: states() by a switch", 2, house::states);
@@ -92,7 +83,7 @@ public final class ProofTest {
     }
 
     private static void statesBehindTheEndDoNotComeUp() {
-        EscapadeHouse house = withPlaces(2);
+        EscapadeHouse house = Rooms.withPlaces(2);
         house.addPlace();
         house.addDoor(0, 1, -1, false);
         house.addDoor(1, 2, -1, false);
@@ -104,7 +95,7 @@ public final class ProofTest {
     }
 
     private static void theLongestTrialIsOfFiveActs() {
-        EscapadeHouse house = withPlaces(6);
+        EscapadeHouse house = Rooms.withPlaces(6);
         for (int i = 0; i < 5; i++) {
             house.addDoor(i, i + 1, -1, false);
         }
@@ -121,7 +112,7 @@ public final class ProofTest {
         house.addDoor(0, 1, 0, false);
         check.due("19: wayLeft()", 5, house::wayLeft);
 
-        EscapadeHouse longer = withPlaces(6);
+        EscapadeHouse longer = Rooms.withPlaces(6);
         longer.addLock('c', 0, 0);
         for (int i = 0; i < 5; i++) {
             longer.addDoor(i, i + 1, 0, false);
@@ -135,7 +126,7 @@ public final class ProofTest {
     }
 
     private static void theFirstActByNumbersIsHinted() {
-        EscapadeHouse house = withPlaces(4);
+        EscapadeHouse house = Rooms.withPlaces(4);
         house.addSwitch(0);
         house.addSwitch(0);
         house.addLock('s', 0, 3);
@@ -160,7 +151,7 @@ public final class ProofTest {
     }
 
     private static void proofsFollowTheRoom() {
-        EscapadeHouse house = withPlaces(2);
+        EscapadeHouse house = Rooms.withPlaces(2);
         check.due("17: states()", 1, house::states);
         check.due("19: wayLeft() without a door", NO_WAY, house::wayLeft);
         check.due("20: canIn(5) without a door", false, () -> house.canIn(5));
@@ -190,7 +181,7 @@ public final class ProofTest {
     }
 
     private static void allMayBeDead() {
-        EscapadeHouse house = withPlaces(3);
+        EscapadeHouse house = Rooms.withPlaces(3);
         house.addSwitch(0);
         house.addDoor(0, 1, -1, false);
         check.due("17: states()", 4, house::states);
@@ -202,7 +193,7 @@ public final class ProofTest {
 
     /** Five places, 16 settings of switches, and two props of five fates: in place, in hands, in one of three locks. */
     private static EscapadeHouse withTwoThousandStates() {
-        EscapadeHouse house = withPlaces(6);
+        EscapadeHouse house = Rooms.withPlaces(6);
         for (int i = 0; i < 4; i++) {
             house.addDoor(i, i + 1, -1, false);
             house.addSwitch(i);
@@ -226,19 +217,7 @@ public final class ProofTest {
     }
 
     private static void moreStatesAreNot() {
-        EscapadeHouse house = withPlaces(4);
-        house.addLock('c', 2, 1);
-        house.addLock('c', 1, 2);
-        house.addLock('c', 1, 0);
-        house.addKeyLock(1, 0, true);
-        house.addDoor(0, 1, -1, true);
-        house.addDoor(1, 2, -1, false);
-        house.addDoor(2, 3, 2, false);
-        house.addProp(1, -1, 2);
-        house.addProp(2, -1, 1);
-        house.addProp(2, -1, 0);
-        house.addProp(1, -1, 0);
-        house.addProp(2, -1, 2);
+        EscapadeHouse house = Rooms.of2001States();
         check.due("17: states() of 2001", NOT_DONE, house::states);
         check.due("18: deadEnds() of 2001", NOT_DONE, house::deadEnds);
         check.due("19: wayLeft() of 2001", NOT_DONE, house::wayLeft);
@@ -263,7 +242,7 @@ public final class ProofTest {
 
     /** As many acts at once as can be, and none of them of any use. */
     private static void theLargestRoomsAreAnswered() {
-        EscapadeHouse house = withPlaces(6);
+        EscapadeHouse house = Rooms.withPlaces(6);
         for (int i = 0; i < 8; i++) {
             house.addDoor(0, 1 + i % 4, -1, false);
             house.addProp(0, -1, i);
