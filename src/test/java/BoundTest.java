@@ -23,6 +23,7 @@ public final class BoundTest {
         eachSwitchCanBeInASet();
         eachFactCanBeInferred();
         actsGoByTheirNumbersAndCounts();
+        eachActCanBeTheHint();
         trialsAreOfAtMostFiveActs();
         ofAllStatesUpTo2000();
         shareOfEachNumberOfFacts();
@@ -326,6 +327,58 @@ public final class BoundTest {
 
     private static boolean isAmong(int act, int first, int last) {
         return first <= act && act <= last;
+    }
+
+    /** Of as many as there can be of a kind, just one leads on, and it takes so many acts. */
+    private static void eachActCanBeTheHint() {
+        for (int i = 0; i <= 7; i++) {
+            hints(i, 1, withADoor(i));
+            EscapadeHouse byProp = Rooms.withPlaces(3);
+            byProp.addKeyLock(0, i, false);
+            for (int prop = 0; prop <= 7; prop++) {
+                byProp.addProp(0, -1, -1);
+            }
+            byProp.addDoor(0, 2, 0, true);
+            hints(20 + i, 3, byProp);
+        }
+        for (int i = 0; i <= 5; i++) {
+            EscapadeHouse byLock = withLocks(6);
+            byLock.addDoor(0, 1, i, true);
+            hints(40 + i, 2, byLock);
+        }
+        for (int i = 0; i <= 3; i++) {
+            EscapadeHouse bySwitch = Rooms.withPlaces(2);
+            bySwitch.addLock('s', 0, 1 << i);
+            for (int number = 0; number <= 3; number++) {
+                bySwitch.addSwitch(0);
+            }
+            bySwitch.addDoor(0, 1, 0, true);
+            hints(60 + i, 3, bySwitch);
+        }
+        EscapadeHouse byFact = Rooms.withPlaces(2);
+        byFact.addLock('c', 0, 1 << 11);
+        byFact.addProp(0, -1, 11);
+        byFact.addDoor(0, 1, 0, true);
+        hints(10, 3, byFact);
+    }
+
+    /** Eight doors, all but one of them into a place without a way. */
+    private static EscapadeHouse withADoor(int door) {
+        EscapadeHouse house = Rooms.withPlaces(3);
+        for (int i = 0; i <= 7; i++) {
+            house.addDoor(0, i == door ? 2 : 1, -1, true);
+        }
+        return house;
+    }
+
+    private static void hints(int act, int way, EscapadeHouse house) {
+        check.due("21: hint() of " + act, act, house::hint);
+        check.due("22: isWrong(" + act + "), the hint", false, () -> house.isWrong(act));
+        check.due("19: wayLeft() by " + act, way, house::wayLeft);
+        check.due("20: canIn(" + way + ") by " + act, true, () -> house.canIn(way));
+        check.due("20: canIn(" + (way - 1) + ") by " + act, false, () -> house.canIn(way - 1));
+        house.act(act);
+        check.due("19: wayLeft() after " + act, way - 1, house::wayLeft);
     }
 
     /** A chain of five doors, some of them with a lock that is opened first: a way of 0 to 11 acts. */

@@ -30,6 +30,7 @@ public final class TermsTest {
         anActMayChangeNothing();
         statesGoByAllThatTheyAre();
         sensorsAndCountsAreNoState();
+        proofsAreOfTheRoomAsItIs();
         theFewestActs();
         wrongActsLeadFromALivingStateToADeadOne();
         theDeskSeesWhatIs();
@@ -377,6 +378,10 @@ public final class TermsTest {
         check.due("addPlace() after it", NO_STATE, bare::addPlace);
         check.due("reset() of it", 1, bare::reset);
         check.due("addPlace() when it is taken back", 2, bare::addPlace);
+        check.due("act(10) after a reset", false, () -> bare.act(10));
+        check.due("addPlace() after one act more", NO_STATE, bare::addPlace);
+        check.due("reset() of one act more", 1, bare::reset);
+        check.due("reset() of none", 0, bare::reset);
     }
 
     private static void statesGoByAllThatTheyAre() {
@@ -422,6 +427,39 @@ public final class TermsTest {
         after(house, 10, 10);
         check.due("states() after acts", 2, house::states);
         check.due("checksum() after acts", 0L, house::checksum);
+    }
+
+    /** Each call that adds something, after the proofs of the room without it were asked for. */
+    private static void proofsAreOfTheRoomAsItIs() {
+        EscapadeHouse house = Rooms.withPlaces(3);
+        proofsAre(house, 1, NO_WAY);
+        house.addLock('c', 0, 1);
+        proofsAre(house, 1, NO_WAY);
+        house.addDoor(0, 2, 0, true);
+        proofsAre(house, 1, NO_WAY);
+        house.addProp(0, -1, 5);
+        proofsAre(house, 4, NO_WAY);
+        house.infer(1 << 5, 0);
+        proofsAre(house, 8, 3);
+        house.addSwitch(0);
+        proofsAre(house, 16, 3);
+        house.addLock('s', 0, 1);
+        proofsAre(house, 32, 3);
+        house.addDoor(0, 2, 1, true);
+        proofsAre(house, 40, 3);
+        house.addKeyLock(0, 0, false);
+        proofsAre(house, 60, 3);
+        house.addDoor(0, 1, -1, true);
+        proofsAre(house, 96, 3);
+        house.setEnd(1);
+        proofsAre(house, 96, 1);
+    }
+
+    private static void proofsAre(EscapadeHouse house, int states, Object way) {
+        check.due("states()", states, house::states);
+        check.due("wayLeft()", way, house::wayLeft);
+        check.due("canIn(5)", !way.equals(NO_WAY), () -> house.canIn(5));
+        check.due("isSound()", true, house::isSound);
     }
 
     /** A way of four acts by the first door, and one of three by looking. */
