@@ -189,7 +189,8 @@ public final class AskingRefusedTest {
 
     private static void noMeanOfDeadStatesAlone() {
         Supplier<EscapadeHouse> turned = () -> after(allDead(), 60);
-        check.refused("27: meanWay() of dead states alone", NO_MEAN, AskingRefusedTest::allDead, EscapadeHouse::meanWay);
+        Supplier<EscapadeHouse> begun = AskingRefusedTest::allDead;
+        check.refused("27: meanWay() of dead states alone", NO_MEAN, begun, EscapadeHouse::meanWay);
         check.refused("27: meanWay() of dead states alone, after an act", NO_MEAN, turned, EscapadeHouse::meanWay);
         EscapadeHouse living = allDead();
         living.addDoor(0, 1, -1, true);

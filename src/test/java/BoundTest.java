@@ -445,7 +445,7 @@ public final class BoundTest {
         }
     }
 
-    /** The last place, which is not the end, all facts known, seven props in hands and one broken, all locks open, all on. */
+    /** In the last place, all facts known, seven props in hands and one broken, all locks open, all switches on. */
     private static void theGreatestChecksum() {
         EscapadeHouse house = Rooms.withPlaces(6);
         house.setEnd(4);

@@ -15,7 +15,7 @@ final class Rooms {
         return house;
     }
 
-    /** Exactly 2000 states, 352 of them dead: those where the prop 0 broke in the lock 2 before it opened the lock 1. */
+    /** Exactly 2000 states; the 352 dead ones are those where the prop 0 broke before it opened the lock 1. */
     static EscapadeHouse of2000States() {
         EscapadeHouse house = withPlaces(3);
         house.addLock('c', 0, 1);
