@@ -31,6 +31,8 @@ public final class TermsTest {
         statesGoByAllThatTheyAre();
         sensorsAndCountsAreNoState();
         proofsAreOfTheRoomAsItIs();
+        aNearerEndLeavesNothingOfTheProofsBefore();
+        aNearerEndLeavesNoWayThatWas();
         theFewestActs();
         wrongActsLeadFromALivingStateToADeadOne();
         theDeskSeesWhatIs();
@@ -453,6 +455,49 @@ public final class TermsTest {
         proofsAre(house, 96, 3);
         house.setEnd(1);
         proofsAre(house, 96, 1);
+    }
+
+    /** A chain of four places: the nearer the end, the fewer states come up. */
+    private static void aNearerEndLeavesNothingOfTheProofsBefore() {
+        EscapadeHouse house = Rooms.withPlaces(5);
+        for (int i = 0; i < 3; i++) {
+            house.addDoor(i, i + 1, -1, true);
+        }
+        proofsAre(house, 4, NO_WAY);
+        check.due("deadEnds()", 4, house::deadEnds);
+        for (int end = 3; end >= 0; end--) {
+            house.setEnd(end);
+            proofsAre(house, end + 1, end);
+            check.due("deadEnds() to " + end, 0, house::deadEnds);
+            check.due("meanWay() to " + end, end / 2.0, house::meanWay);
+        }
+        house.setEnd(4);
+        proofsAre(house, 4, NO_WAY);
+        house.setEnd(3);
+        proofsAre(house, 4, 3);
+        house.setEnd(1);
+        proofsAre(house, 2, 1);
+        check.due("meanWay() to 1 after 3", 0.5, house::meanWay);
+    }
+
+    /** What was the way to the end is dead when another place is the end. */
+    private static void aNearerEndLeavesNoWayThatWas() {
+        EscapadeHouse house = Rooms.withPlaces(5);
+        house.addDoor(0, 1, -1, true);
+        house.addDoor(1, 2, -1, true);
+        house.addDoor(0, 3, -1, true);
+        house.addDoor(3, 4, -1, true);
+        proofsAre(house, 5, 2);
+        check.due("deadEnds()", 2, house::deadEnds);
+        check.due("meanWay()", (2 + 1 + 0) / 3.0, house::meanWay);
+        check.due("isWrong(0)", true, () -> house.isWrong(0));
+        house.setEnd(1);
+        proofsAre(house, 4, 1);
+        check.due("deadEnds() to 1", 2, house::deadEnds);
+        check.due("meanWay() to 1", (1 + 0) / 2.0, house::meanWay);
+        check.due("isWrong(0) to 1", false, () -> house.isWrong(0));
+        check.due("isWrong(2) to 1", true, () -> house.isWrong(2));
+        check.due("wayLeft() where the way was", NO_WAY, after(house, 2)::wayLeft);
     }
 
     private static void proofsAre(EscapadeHouse house, int states, Object way) {
