@@ -221,7 +221,7 @@ public final class EscapadeHouse {
         if (acts < 0 || acts > MOST_ACTS_TRIED) {
             throw new IllegalArgumentException("the number is out of range");
         }
-        return trial.findsEnd(room, state, acts);
+        return trial.leadsToEnd(room, state, acts);
     }
 
     public int hint()
@@ -303,7 +303,7 @@ public final class EscapadeHouse {
         }
         int way = tried.wayFrom(state);
         boolean isNear = way != NONE && way <= MOST_ACTS_TRIED;
-        return isNear == trial.findsEnd(room, state, MOST_ACTS_TRIED);
+        return isNear == trial.leadsToEnd(room, state, MOST_ACTS_TRIED);
     }
 
     // What several calls share.
@@ -511,7 +511,7 @@ public final class EscapadeHouse {
                 return true;
             }
             if (act < FIRST_LOCK) {
-                return State.has(propsInSight(state), act - FIRST_PROP);
+                return isInSight(state, act - FIRST_PROP);
             }
             if (act < FIRST_SWITCH) {
                 return isOpenable(state, act - FIRST_LOCK);
@@ -525,8 +525,7 @@ public final class EscapadeHouse {
                 return afterDoor(state, act);
             }
             if (act < FIRST_PROP) {
-                int shown = factsOn(propsInSight(state) | State.heldIn(state));
-                return State.knowing(state, withInferences(State.knownIn(state) | shown));
+                return State.knowing(state, withInferences(State.knownIn(state) | factsShown(state)));
             }
             if (act < FIRST_LOCK) {
                 return State.taking(state, act - FIRST_PROP);
@@ -571,24 +570,22 @@ public final class EscapadeHouse {
             return lock == NONE || (open >>> lock & 1) != 0;
         }
 
-        private int propsInSight(long state) {
-            int here = State.placeIn(state);
-            int open = State.openIn(state);
-            int shown = 0;
-            for (int i = 0; i < props.size(); i++) {
-                Prop prop = props.get(i);
-                if (prop.home == here && isFree(open, prop.box)) {
-                    shown |= 1 << i;
-                }
+        private boolean isInSight(long state, int number) {
+            if (number < 0 || number >= props.size()) {
+                return false;
             }
-            return shown & ~(State.heldIn(state) | State.brokenIn(state));
+            Prop prop = props.get(number);
+            int taken = State.heldIn(state) | State.brokenIn(state);
+            return prop.home == State.placeIn(state) && isFree(State.openIn(state), prop.box)
+                    && !State.has(taken, number);
         }
 
-        private int factsOn(int shown) {
+        private int factsShown(long state) {
+            int held = State.heldIn(state);
             int facts = 0;
             for (int i = 0; i < props.size(); i++) {
                 int fact = props.get(i).fact;
-                if (fact != NONE && State.has(shown, i)) {
+                if (fact != NONE && (State.has(held, i) || isInSight(state, i))) {
                     facts |= 1 << fact;
                 }
             }
@@ -674,7 +671,12 @@ public final class EscapadeHouse {
             isFull = false;
             enter(State.BEGINNING);
             for (int from = 0; from < count && from < MOST_STATES && !isFull; from++) {
-                goOn(room, from);
+                for (int i = 0; i < ACTS.length && !isFull; i++) {
+                    int act = ACTS[i];
+                    if (room.allows(found[from], act)) {
+                        addStep(from, enter(room.after(found[from], act)));
+                    }
+                }
             }
             if (!isFull) {
                 measure(room);
@@ -695,7 +697,7 @@ public final class EscapadeHouse {
 
         int wayFrom(long state) {
             int index = indexOf(state);
-            return index == NONE ? NONE : ways[index];
+            return index < 0 || index >= MOST_STATES ? NONE : ways[index];
         }
 
         int livingCount() {
@@ -718,21 +720,8 @@ public final class EscapadeHouse {
             return sum;
         }
 
-        private void goOn(Room room, int from) {
-            long state = found[from];
-            for (int i = 0; i < ACTS.length && !isFull; i++) {
-                int act = ACTS[i];
-                if (room.allows(state, act)) {
-                    int to = enter(room.after(state, act));
-                    if (to != NONE && to != from) {
-                        addStep(from, to);
-                    }
-                }
-            }
-        }
-
         private void addStep(int from, int to) {
-            if (stepCount < steps.length) {
+            if (to != NONE && to != from && stepCount < steps.length) {
                 steps[stepCount] = from << TO_BITS | to;
                 stepCount++;
             }
@@ -807,10 +796,6 @@ public final class EscapadeHouse {
             Arrays.fill(failed, 0L);
         }
 
-        boolean findsEnd(Room room, long state, int left) {
-            return leadsToEnd(room, state, left);
-        }
-
         private boolean leadsToEnd(Room room, long state, int left) {
             if (room.isEnd(state)) {
                 return true;
@@ -833,7 +818,7 @@ public final class EscapadeHouse {
 
         private boolean leadsByAnAct(Room room, long state, int left) {
             // Only a door can lead into the end, so that the last act need not be another one.
-            int most = left == 1 ? MOST_DOORS : ACTS.length;
+            int most = left == 1 ? room.doors.size() : ACTS.length;
             for (int i = 0; i < most && i < ACTS.length; i++) {
                 int act = ACTS[i];
                 if (room.allows(state, act) && leadsToEnd(room, room.after(state, act), left - 1)) {
