@@ -796,6 +796,7 @@ public final class EscapadeHouse {
             Arrays.fill(failed, 0L);
         }
 
+        /** Private, though the house calls it, as methods that call one another must be. */
         private boolean leadsToEnd(Room room, long state, int left) {
             if (room.isEnd(state)) {
                 return true;
